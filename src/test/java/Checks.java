@@ -18,13 +18,23 @@ final class Checks {
     static long of(Call call) {
         try {
             return call.answer();
-        } catch (IllegalArgumentException e) {
+        } catch (RuntimeException e) {
+            return standingFor(e);
+        }
+    }
+
+    /** A class below one of the three is not what the document names, and goes on to the caller. */
+    private static long standingFor(RuntimeException e) {
+        if (e.getClass() == IllegalArgumentException.class) {
             return ILLEGAL_ARGUMENT;
-        } catch (IllegalStateException e) {
+        }
+        if (e.getClass() == IllegalStateException.class) {
             return ILLEGAL_STATE;
-        } catch (NoSuchElementException e) {
+        }
+        if (e.getClass() == NoSuchElementException.class) {
             return NO_SUCH_ELEMENT;
         }
+        throw e;
     }
 
     void due(String what, long want, Call call) {

@@ -9,13 +9,18 @@ import java.util.ArrayList;
 import java.util.Arrays;
 import java.util.List;
 import java.util.TreeSet;
+import java.util.stream.Collectors;
 
 /** The public face of the document, and those rules of LANGUAGE.md that can be seen from the class and its text. */
 public final class FaceTest {
     private static final List<String> FACE = List.of(
-        "int term(int,int,int,int)", "int claim(int)", "int open()", "int close()", "boolean check()",
-        "int model(int)", "int value(int)", "int reckon(int,int,int)", "int terms()", "int claims()",
-        "int level()", "int checks()");
+        "int term(int,int,int,int) throws IllegalArgumentException,IllegalStateException",
+        "int claim(int) throws IllegalArgumentException,IllegalStateException",
+        "int open() throws IllegalStateException", "int close() throws IllegalStateException", "boolean check()",
+        "int model(int) throws IllegalArgumentException,NoSuchElementException",
+        "int value(int) throws IllegalArgumentException,NoSuchElementException",
+        "int reckon(int,int,int) throws IllegalArgumentException",
+        "int terms()", "int claims()", "int level()", "int checks()");
     private static final String[] RULED_OUT = {
         "->", "::", "synchronized", "assert ", "finally", "static {", "protected ", "Random", "System.",
         "Thread", ".currentTime", ".nanoTime", "package "
@@ -53,9 +58,13 @@ public final class FaceTest {
     }
 
     private static String described(Method method) {
-        String parameters = Arrays.toString(Arrays.stream(method.getParameterTypes()).map(Class::getName).toArray());
-        String inside = parameters.substring(1, parameters.length() - 1).replace(" ", "");
-        return method.getReturnType().getName() + " " + method.getName() + "(" + inside + ")";
+        String thrown = names(method.getExceptionTypes());
+        return method.getReturnType().getSimpleName() + " " + method.getName()
+            + "(" + names(method.getParameterTypes()) + ")" + (thrown.isEmpty() ? "" : " throws " + thrown);
+    }
+
+    private static String names(Class<?>[] types) {
+        return Arrays.stream(types).map(Class::getSimpleName).collect(Collectors.joining(","));
     }
 
     private static void classesInside() {
